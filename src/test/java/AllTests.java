@@ -1,0 +1,11 @@
+/** Runs every test of the project; ends with 1 if one failed. */
+final class AllTests {
+    public static void main(String[] args) {
+        Tests tests = new Tests();
+        new RandomRuns(tests).all();
+        tests.printTotals();
+        if (tests.failed() > 0) {
+            System.exit(1);
+        }
+    }
+}
