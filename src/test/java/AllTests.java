@@ -2,6 +2,11 @@
 final class AllTests {
     public static void main(String[] args) {
         Tests tests = new Tests();
+        new FaceTests(tests).all();
+        new ReadingTests(tests).all();
+        new PocketTests(tests).all();
+        new TotalTests(tests).all();
+        new HouseTests(tests).all();
         new RandomRuns(tests).all();
         tests.printTotals();
         if (tests.failed() > 0) {
