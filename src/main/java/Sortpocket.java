@@ -27,6 +27,7 @@ public final class Sortpocket {
     private static final int WAYS = 4;
     // 9 ENDS and OTHERS, and what is put together of them: one less than these at most.
     private static final int MOST_NODES = 19;
+    private static final int RANKS_BY_VOLUME = 10;
 
     private static final int RAW = 0;
     private static final int READ = 1;
@@ -534,19 +535,9 @@ public final class Sortpocket {
     private int endFact(int end, int what) {
         switch (what) {
             case 0: return sorter.ends.bankOf(end);
-            case 1: return volumeOf(end);
+            case 1: return sorter.volumeOf(end, items);
             default: return sorter.plan.lengthOf(sorter.leafOf(end));
         }
-    }
-
-    private int volumeOf(int end) {
-        int count = 0;
-        for (Item one : items) {
-            if (one != null && one.isKnown() && sorter.ends.endOf(one.knownBank()) == end) {
-                count++;
-            }
-        }
-        return count;
     }
 
     private int plainHandling(int pockets) {
@@ -644,9 +635,10 @@ public final class Sortpocket {
         }
     }
 
+    // Two digits that are the same make the amount itself, which is never meant with a DIFFERENCE.
     private static boolean isTurned(int amount, int meant) {
         for (int place = AMOUNT_PLACE; place < LAST_PLACE; place++) {
-            if (meant != amount && Lines.turnedAt(amount, place) == meant) {
+            if (Lines.turnedAt(amount, place) == meant) {
                 return true;
             }
         }
@@ -733,6 +725,20 @@ public final class Sortpocket {
             if (place >= 0 && place < numbers.length) {
                 numbers[place] = number;
             }
+        }
+
+        /** Where the least number stands of those that are not NONE; NONE, if all are. */
+        int placeOfLeast() {
+            int found = NONE;
+            int least = NONE;
+            for (int place = 0; place < numbers.length; place++) {
+                int number = numbers[place];
+                if (number != NONE && (found == NONE || number < least)) {
+                    found = place;
+                    least = number;
+                }
+            }
+            return found;
         }
     }
 
@@ -945,12 +951,21 @@ public final class Sortpocket {
 
     private static final class Ends {
         private final Row banks = new Row(MOST_ENDS);
+        private final Row endsByBank = new Row(MOST_BANK + 1);
         int count;
 
+        Ends() {
+            for (int bank = 0; bank <= MOST_BANK; bank++) {
+                endsByBank.set(bank, NONE);
+            }
+        }
+
         int add(int bank) {
-            banks.set(count, bank);
+            int end = count;
+            banks.set(end, bank);
+            endsByBank.set(bank, end);
             count++;
-            return count - 1;
+            return end;
         }
 
         int bankOf(int end) {
@@ -958,21 +973,17 @@ public final class Sortpocket {
         }
 
         boolean isEnd(int bank) {
-            return endOf(bank) < count;
+            return endsByBank.at(bank) != NONE;
         }
 
         int endOf(int bank) {
             return endAmong(bank, count);
         }
 
-        /** The END of a BANK by the first ENDS alone; that behind them is OTHERS. */
+        /** The END of a BANK by the first ENDS alone; the number behind them is that of OTHERS. */
         int endAmong(int bank, int first) {
-            for (int end = 0; end < first; end++) {
-                if (banks.at(end) == bank) {
-                    return end;
-                }
-            }
-            return first;
+            int end = endsByBank.at(bank);
+            return end != NONE && end < first ? end : first;
         }
     }
 
@@ -981,8 +992,8 @@ public final class Sortpocket {
      * put together has a higher number than its parts, and the whole has the highest.
      */
     private static final class Tree {
-        private final Row volumes = new Row(MOST_NODES);
-        private final Row smallest = new Row(MOST_NODES);
+        // GROUPS by their VOLUMES, then by their smallest ENDS; NONE for what is a part of another.
+        private final Row ranks = new Row(MOST_NODES);
         private final Row wholes = new Row(MOST_NODES);
         private final Row pocketsOfParts = new Row(MOST_NODES);
         private final Row lengths = new Row(MOST_NODES);
@@ -992,29 +1003,15 @@ public final class Sortpocket {
         int leaves;
         int nodes;
 
-        void startAnew(int pocketCount, int leafCount) {
+        void grow(int pocketCount, int leafCount, Row volumes) {
             pockets = pocketCount;
             leaves = leafCount;
-            nodes = 0;
+            nodes = leafCount;
+            clear();
             for (int leaf = 0; leaf < leafCount; leaf++) {
-                addNode(0, leaf);
+                ranks.set(leaf, rankOf(volumes.at(leaf), leaf));
             }
-        }
-
-        private void addNode(int volume, int smallestEnd) {
-            volumes.set(nodes, volume);
-            smallest.set(nodes, smallestEnd);
-            wholes.set(nodes, NONE);
-            pocketsOfParts.set(nodes, NONE);
-            nodes++;
-        }
-
-        void weigh(int leaf) {
-            volumes.set(leaf, volumes.at(leaf) + 1);
-        }
-
-        void putAllTogether() {
-            int groups = leaves;
+            int groups = leafCount;
             int wanted = firstParts();
             for (int round = 0; round < MOST_ENDS && groups >= 2; round++) {
                 int parts = Math.min(wanted, groups);
@@ -1025,6 +1022,18 @@ public final class Sortpocket {
             measure();
         }
 
+        private void clear() {
+            for (int node = 0; node < MOST_NODES; node++) {
+                ranks.set(node, NONE);
+                wholes.set(node, NONE);
+                pocketsOfParts.set(node, NONE);
+            }
+        }
+
+        private static int rankOf(int volume, int smallestEnd) {
+            return volume * RANKS_BY_VOLUME + smallestEnd;
+        }
+
         private int firstParts() {
             int spare = pockets - 1;
             return spare > 0 && leaves >= 2 ? (leaves - 2) % spare + 2 : pockets;
@@ -1032,33 +1041,27 @@ public final class Sortpocket {
 
         private void putTogether(int parts) {
             int volume = 0;
-            int smallestEnd = leaves;
+            int smallestEnd = MOST_ENDS;
             int whole = nodes;
             for (int pocket = 0; pocket < parts; pocket++) {
-                int part = leastGroup();
+                int part = ranks.placeOfLeast();
+                int rank = ranks.at(part);
+                ranks.set(part, NONE);
                 wholes.set(part, whole);
                 pocketsOfParts.set(part, pocket);
-                volume += volumes.at(part);
-                smallestEnd = Math.min(smallestEnd, smallest.at(part));
+                volume += rank / RANKS_BY_VOLUME;
+                smallestEnd = Math.min(smallestEnd, rank % RANKS_BY_VOLUME);
             }
-            addNode(volume, smallestEnd);
+            ranks.set(whole, rankOf(volume, smallestEnd));
+            nodes++;
         }
 
-        private int leastGroup() {
-            int least = NONE;
-            for (int node = 0; node < nodes; node++) {
-                if (wholes.at(node) == NONE && (least == NONE || isBefore(node, least))) {
-                    least = node;
-                }
+        int handlingOf(Row volumes) {
+            int handling = 0;
+            for (int leaf = 0; leaf < leaves; leaf++) {
+                handling += volumes.at(leaf) * lengths.at(leaf);
             }
-            return least;
-        }
-
-        private boolean isBefore(int node, int other) {
-            int volume = volumes.at(node);
-            int otherVolume = volumes.at(other);
-            return volume < otherVolume
-                    || volume == otherVolume && smallest.at(node) < smallest.at(other);
+            return handling;
         }
 
         // From the highest node down, so that each whole is measured before its parts.
@@ -1172,7 +1175,9 @@ public final class Sortpocket {
     private static final class Sorter {
         final Ends ends = new Ends();
         final Tree plan = new Tree();
+        // What would be is tried on a tree of its own: the plan must stay as it is.
         private final Tree trial = new Tree();
+        private final Row volumes = new Row(MOST_ENDS + 1);
         private final Pile[] piles = new Pile[MOST_NODES];
         boolean isPlanned;
         int handled;
@@ -1186,7 +1191,8 @@ public final class Sortpocket {
         }
 
         void layPlan(int pockets, int newCap, Item[] items) {
-            grow(plan, pockets, items);
+            countVolumes(ends.count, items);
+            plan.grow(pockets, ends.count + 1, volumes);
             plan.numberPiles();
             cap = newCap;
             isPlanned = true;
@@ -1202,14 +1208,22 @@ public final class Sortpocket {
             }
         }
 
-        private void grow(Tree tree, int pockets, Item[] items) {
-            tree.startAnew(pockets, ends.count + 1);
+        /** Counts what is KNOWN by the first ENDS alone, with OTHERS behind them. */
+        private void countVolumes(int first, Item[] items) {
+            for (int end = 0; end <= MOST_ENDS; end++) {
+                volumes.set(end, 0);
+            }
             for (Item one : items) {
                 if (one != null && one.isKnown()) {
-                    tree.weigh(ends.endOf(one.knownBank()));
+                    int end = ends.endAmong(one.knownBank(), first);
+                    volumes.set(end, volumes.at(end) + 1);
                 }
             }
-            tree.putAllTogether();
+        }
+
+        int volumeOf(int end, Item[] items) {
+            countVolumes(ends.count, items);
+            return volumes.at(end);
         }
 
         /** An ITEM that is KNOWN comes to the end of the first PILE, if there is one. */
@@ -1222,26 +1236,21 @@ public final class Sortpocket {
         }
 
         int trialHandling(int pockets, Item[] items) {
-            grow(trial, pockets, items);
-            return handlingBy(trial, items);
+            countVolumes(ends.count, items);
+            trial.grow(pockets, ends.count + 1, volumes);
+            return trial.handlingOf(volumes);
         }
 
         int handlingNow(Item[] items) {
-            return isPlanned ? handlingBy(plan, items) : 0;
-        }
-
-        private int handlingBy(Tree tree, Item[] items) {
-            int handling = 0;
-            for (Item one : items) {
-                if (one != null && one.isKnown()) {
-                    handling += tree.lengthOf(leafBy(tree, one));
-                }
+            if (!isPlanned) {
+                return 0;
             }
-            return handling;
+            countVolumes(plan.leaves - 1, items);
+            return plan.handlingOf(volumes);
         }
 
-        private int leafBy(Tree tree, Item one) {
-            return ends.endAmong(one.knownBank(), tree.leaves - 1);
+        private int leafOfItem(Item one) {
+            return ends.endAmong(one.knownBank(), plan.leaves - 1);
         }
 
         /** The leaf of an END, or of OTHERS, as it is numbered now; NONE, if the plan has none. */
@@ -1292,7 +1301,7 @@ public final class Sortpocket {
         }
 
         boolean isSorted(Item one) {
-            return isPlanned && one.isKnown() && plan.nodeOf(one.pile) == leafBy(plan, one);
+            return isPlanned && one.isKnown() && plan.nodeOf(one.pile) == leafOfItem(one);
         }
 
         boolean mayRun(int pile) {
@@ -1322,7 +1331,7 @@ public final class Sortpocket {
             if (one == null) {
                 return;
             }
-            int next = plan.pileTowards(leafBy(plan, one), pile);
+            int next = plan.pileTowards(leafOfItem(one), pile);
             Pile pocket = pileAt(next);
             if (pocket != null) {
                 one.pile = next;
@@ -1365,7 +1374,7 @@ public final class Sortpocket {
 
         private boolean isPlaced(Item one, int pile) {
             int node = plan.nodeOf(pile);
-            return !plan.isLeaf(node) || node == leafBy(plan, one);
+            return !plan.isLeaf(node) || node == leafOfItem(one);
         }
     }
 }

@@ -3,6 +3,7 @@ final class AllTests {
     public static void main(String[] args) {
         Tests tests = new Tests();
         new FaceTests(tests).all();
+        new LanguageTests(tests).all();
         new ReadingTests(tests).all();
         new PocketTests(tests).all();
         new TotalTests(tests).all();

@@ -314,6 +314,10 @@ final class PocketTests {
         }
         x.item(1, 1, 1, 0, 0);
         tests.same("one that is RAW has no VOLUME", x.ofEnd(0, 1), 3);
+        Sortpocket bounds = withEnds(known(0, 98, 99, 99), 99, 98, 0);
+        for (int end = 0; end < 4; end++) {
+            tests.same("VOLUME of " + end + " of the BANKS at the bounds", bounds.ofEnd(end, 1), new int[] {2, 1, 1, 0}[end]);
+        }
         for (int end : new int[] {-1, 5, Integer.MIN_VALUE}) {
             tests.refuses(x, INDEX, "ofEnd", end, 0);
             tests.refuses(x, INDEX, "ofEnd", end, 3);

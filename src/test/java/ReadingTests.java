@@ -21,10 +21,12 @@ final class ReadingTests {
         readByLuck();
         readReckons();
         readMayBeWrong();
+        readDrawsTowardsZero();
         readIsRefused();
         readAll();
         key();
         keyersSlipAlike();
+        keyersSlipFromNine();
         keyerTellsEveryAsItIsNow();
         keyIsRefused();
         ofItem();
@@ -167,6 +169,14 @@ final class ReadingTests {
         tests.same("WRONG ones", x.house(5), 1);
     }
 
+    /** LUCK 233 draws 91: just so much, as all is divided towards 0. */
+    private void readDrawsTowardsZero() {
+        Sortpocket x = with(1 << 11);
+        x.machine(0, 9);
+        tests.same("places lost", x.read(0), 1);
+        tests.same("a slip at the place 7 alone", x.line(0, false), "123456710782");
+    }
+
     private void readIsRefused() {
         Sortpocket x = with(0, 3, 0);
         x.read(0);
@@ -234,6 +244,17 @@ final class ReadingTests {
         x.keyer(1, 99);
         tests.same("not the same", x.key(2), true);
         tests.same("LOOKED", x.house(7), 2);
+    }
+
+    private void keyersSlipFromNine() {
+        Sortpocket x = new Sortpocket();
+        x.item(12, 3496, 889, 0, ALL);
+        x.readAll();
+        x.keyer(0, 5);
+        x.keyer(1, 5);
+        tests.same("the same, and sound", x.key(0), false);
+        tests.same("9 becomes 0", x.ofItem(0, 7), 3406);
+        tests.same("8 becomes 9", x.ofItem(0, 8), 989);
     }
 
     private void keyerTellsEveryAsItIsNow() {

@@ -18,6 +18,7 @@ final class TotalTests {
         control();
         ofBatch();
         totalsByWhatIsKnown();
+        nothingIsMissing();
         hunt();
         huntNth();
         huntIsRefused();
@@ -99,6 +100,19 @@ final class TotalTests {
         tests.same("WRONG SIDE", x.hunt(2, WRONG_SIDE, 0), 0);
     }
 
+    /** An ITEM of 9 that is KNOWN by 0, as the last digit slipped and a lost one made up for that. */
+    private void nothingIsMissing() {
+        Sortpocket x = new Sortpocket();
+        x.item(12, 3456, 9, 2, 0);
+        x.machine(5, 5);
+        x.readAll();
+        tests.same("AMOUNT as it is KNOWN", x.ofItem(0, 8), 0);
+        tests.same("DIFFERENCE", x.control(2, 0), 0);
+        for (int way = 0; way < 4; way++) {
+            tests.same("nothing comes from it by way " + way, x.hunt(2, way, 0), -1);
+        }
+    }
+
     /** Tells whether an AMOUNT may be what a DIFFERENCE comes from, by each WAY. */
     private void mayBe(int amount, int difference, boolean... due) {
         // A second ITEM lets the CONTROL be what it must, also if the DIFFERENCE is below 0.
@@ -146,6 +160,8 @@ final class TotalTests {
         mayBe(9, 90000, false, false, false, true);
         mayBe(50000, 100000, false, true, false, false);
         mayBe(50505, -50505, true, false, false, false);
+        mayBe(12345, 90000, false, false, false, false);
+        mayBe(5, 1, false, false, false, true);
     }
 
     private void huntNth() {
