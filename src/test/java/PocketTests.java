@@ -184,7 +184,11 @@ final class PocketTests {
         for (int nth = 0; nth < 8; nth++) {
             tests.same("by their numbers", x.inPile(0, nth), nth);
         }
-        tests.same("the old PILES are gone", x.ofPile(5, 0), 0);
+        for (int pile = 1; pile < 6; pile++) {
+            tests.same("the old PILES are gone", x.ofPile(pile, 0), 0);
+        }
+        x.design(6, 40);
+        tests.same("each ITEM is there once", x.ofPile(0, 0), 8);
         tests.same("HANDLED goes on", x.house(13), handled);
         tests.same("EMPTIED goes on", x.house(14), emptied);
         tests.same("one run", x.runAll(), 1);
