@@ -1026,7 +1026,6 @@ public final class Sortpocket {
             for (int node = 0; node < MOST_NODES; node++) {
                 ranks.set(node, NONE);
                 wholes.set(node, NONE);
-                pocketsOfParts.set(node, NONE);
             }
         }
 

@@ -18,6 +18,7 @@ final class PocketTests {
         designOfOneGroup();
         designOfNothingKnown();
         designOfMany();
+        designOfLikeGroups();
         designIsRefused();
         designAgain();
         run();
@@ -156,6 +157,20 @@ final class PocketTests {
         codes("of 10 with 5", x, "000", "001", "01", "02", "03", "04", "1", "2", "3", "4");
         x.design(4, 2);
         codes("of 10 with 4", x, "000", "001", "002", "003", "01", "02", "03", "1", "2", "3");
+    }
+
+    /** Of like VOLUMES the GROUP with the smallest END of all in it comes first. */
+    private void designOfLikeGroups() {
+        Sortpocket first = withEnds(known(1, 2, 2, 3, 9, 9, 9), 1, 2, 3);
+        first.design(2, 2);
+        codes("with the smallest END in the first part", first, "100", "11", "101", "0");
+        Sortpocket second = withEnds(known(1, 1, 2, 2, 2, 3, 9, 9, 9, 9, 9, 9, 9), 1, 2, 3);
+        second.design(2, 2);
+        codes("with the smallest END in the second part", second, "001", "01", "000", "1");
+        Sortpocket last = withEnds(known(1), 1, 2, 3, 4, 5, 6, 7, 8, 9);
+        last.design(2, 2);
+        tests.same("a VOLUME of 1 comes behind all of 0", last.code(0), "1");
+        tests.same("OTHERS with 0 come ahead of it", last.code(9), "01");
     }
 
     private void designIsRefused() {
@@ -321,6 +336,10 @@ final class PocketTests {
         Sortpocket bounds = withEnds(known(0, 98, 99, 99), 99, 98, 0);
         for (int end = 0; end < 4; end++) {
             tests.same("VOLUME of " + end + " of the BANKS at the bounds", bounds.ofEnd(end, 1), new int[] {2, 1, 1, 0}[end]);
+        }
+        Sortpocket many = withEnds(known(50, 51), 1, 2, 3, 4, 5, 6, 7, 8, 9);
+        for (int again = 0; again < 2; again++) {
+            tests.same("VOLUME of OTHERS behind 9 ENDS", many.ofEnd(9, 1), 2);
         }
         for (int end : new int[] {-1, 5, Integer.MIN_VALUE}) {
             tests.refuses(x, INDEX, "ofEnd", end, 0);
