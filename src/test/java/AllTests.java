@@ -8,6 +8,11 @@ final class AllTests {
         new PocketTests(tests).all();
         new TotalTests(tests).all();
         new HouseTests(tests).all();
+        new RefusalTests(tests).all();
+        new LineBounds(tests).all();
+        new PocketBounds(tests).all();
+        new TotalBounds(tests).all();
+        new HouseBounds(tests).all();
         new RandomRuns(tests).all();
         tests.printTotals();
         if (tests.failed() > 0) {
