@@ -39,6 +39,7 @@ final class PocketBounds {
         capOfThePlan();
         oneGroupIsSorted();
         pilesByLengthThenCode();
+        theMostPiles();
         runAllTakesTheSmallest();
         fewestAtItsBounds();
         wouldChangesNothing();
@@ -607,6 +608,25 @@ final class PocketBounds {
             tests.same("END of the PILE " + pile, x.ofPile(pile, 4), due[pile]);
         }
         tests.same("PILES", x.house(11), 7);
+    }
+
+    /** 9 ENDS and OTHERS by two POCKETS: 19 PILES, and ITEMS come to each that has the CODE of an END. */
+    private void theMostPiles() {
+        Sortpocket x = ends(9);
+        x.design(2, 40);
+        int[] banks = new int[40];
+        for (int item = 0; item < 40; item++) {
+            banks[item] = item % 10;
+        }
+        know(x, banks);
+        tests.same("runs", x.runAll(), 9);
+        int[] piles = {17, 18, 16, 14, 12, 10, 8, 6, 4, 2};
+        for (int end = 0; end <= 9; end++) {
+            tests.same("END of the PILE", x.ofPile(piles[end], 4), end);
+            inPile("END " + end, x, piles[end], end, end + 10, end + 20, end + 30);
+        }
+        tests.same("SORTED", x.house(15), 40);
+        tests.same("sound", x.isSound(), true);
     }
 
     /** "always the one with the smallest number that may be run and is not empty, until there is none". */
