@@ -4,6 +4,8 @@ final class AllTests {
         Tests tests = new Tests();
         new FaceTests(tests).all();
         new LanguageTests(tests).all();
+        new RoomTests(tests).all();
+        new ReadmeTests(tests).all();
         new ReadingTests(tests).all();
         new PocketTests(tests).all();
         new TotalTests(tests).all();
