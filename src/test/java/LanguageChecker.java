@@ -164,13 +164,24 @@ final class LanguageChecker extends TreePathScanner<Void, Void> {
         return method == null ? "" : method.toString();
     }
 
-    /** Whether the method looks for null there before it uses what the tree stands for. */
+    /** Whether null is looked for where what the tree stands for is used. */
     private boolean isLookedAt(ExpressionTree tree) {
-        Tree user = getCurrentPath().getParentPath().getLeaf();
-        String name = user instanceof VariableTree ? ((VariableTree) user).getName().toString() : tree.toString();
-        boolean isUsed = user instanceof VariableTree || user instanceof MemberSelectTree;
-        String text = textOfMethod();
-        return !isUsed || text.contains(name + " == null") || text.contains(name + " != null");
+        TreePath above = getCurrentPath().getParentPath();
+        Tree user = above.getLeaf();
+        if (user instanceof VariableTree) {
+            return looksForNull(above.getParentPath().getLeaf(), ((VariableTree) user).getName());
+        }
+        if (user instanceof MethodInvocationTree) {
+            int argument = ((MethodInvocationTree) user).getArguments().indexOf(tree);
+            MethodTree called = (MethodTree) trees.getTree(trees.getElement(above));
+            return argument < 0 || called != null && looksForNull(called, called.getParameters().get(argument).getName());
+        }
+        return !(user instanceof MemberSelectTree) || looksForNull(method, tree);
+    }
+
+    private static boolean looksForNull(Tree where, Object name) {
+        String text = String.valueOf(where);
+        return text.contains(name + " == null") || text.contains(name + " != null");
     }
 
     // ---- rules 1 to 3: classes and types

@@ -67,6 +67,8 @@ final class LanguageTests {
         allowed("int part(int a, int b) { return b > 0 ? a / b : a % 10; }");
         allowed("private static final class One { int n; } private final One[] all = new One[4];"
             + " int sum() { int sum = 0; for (One one : all) { if (one != null) { sum += one.n; } } return sum; }");
+        allowed("private static final class One { int n; } One at(int k) { return k < 0 ? null : new One(); }"
+            + " int of(int k) { return numberOf(at(k)); } int numberOf(One one) { return one == null ? 0 : one.n; }");
         allowed("String text() { StringBuilder text = new StringBuilder(); text.append('a'); return text.toString(); }");
         allowed("void no() { throw new IllegalStateException(\"no\"); }");
     }
@@ -123,6 +125,8 @@ final class LanguageTests {
             + " int of(int k) { return at(k).n; }");
         ruledOut(7, "private static final class One { int n; } One at(int k) { return k < 0 ? null : new One(); }"
             + " int of(int k) { One one = at(k); return one.n; }");
+        ruledOut(7, "private static final class One { int n; } One at(int k) { return k < 0 ? null : new One(); }"
+            + " int of(int k) { return numberOf(at(k)); } int numberOf(One one) { return one.n; }");
         ruledOut(9, "void go() { while (true) { } }");
         ruledOut(9, "void go() { do { } while (true); }");
         ruledOut(9, "void go() { for (;;) { } }");
